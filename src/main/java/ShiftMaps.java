@@ -508,7 +508,6 @@ public final class ShiftMaps {
             if (done >= setting(TIME)) {
                 gear = target;
                 target = NO_GEAR;
-                done = 0;
             }
         }
 

@@ -142,6 +142,11 @@ public final class DrivingTest {
         Checks.drive(two, 20, 0, 6);
         Checks.drive(two, 20, 1, 1);
         Checks.due("from 2 to 1", two.car(1), 1);
+        ShiftMaps slow = new ShiftMaps();
+        Checks.drive(slow, 20, 0, 6);
+        Checks.drive(slow, 0, 1, 1);
+        Checks.due("from 2 to 1, standing", slow.car(1), 1);
+        Checks.due("by kickdown", slow.change(0, 3), 2);
         ShiftMaps one = new ShiftMaps();
         Checks.due("none from 1", Checks.drive(one, 10, 1, 1), 0);
         ShiftMaps odd = carInFour();
@@ -244,6 +249,11 @@ public final class DrivingTest {
         Checks.drive(car, 20, 0, 1);
         Checks.due("20 ticks ago", car.change(0, 0), 20);
         Checks.due("held", car.car(3), 30);
+        ShiftMaps late = Checks.quickCar();
+        Checks.drive(late, 10, 0, 50);
+        Checks.swing(late);
+        Checks.due("begun in the tick 54", late.change(0, 0), 54);
+        Checks.due("held in later ticks too", late.car(3), 30);
     }
 
     private static void promise5OnlyAlternatingUpAndDownHold() {
@@ -302,6 +312,13 @@ public final class DrivingTest {
         Checks.due("too many in the text", car.readDrive(), ShiftMaps.FULL);
         Checks.due("value first", Checks.drive(car, 0, 0, 100), ShiftMaps.BAD_VALUE);
         Checks.due("just enough", Checks.drive(car, 0, 0, 81), 0);
+        car.undo();
+        car.clearText();
+        Checks.typeAll(car, "0,0*60;0,0*22");
+        Checks.due("one too many in the text", car.readDrive(), ShiftMaps.FULL);
+        car.clearText();
+        Checks.typeAll(car, "0,0*60;0,0*20;0,0");
+        Checks.due("just enough in the text", car.readDrive(), 0);
         Checks.due("last tick", car.count(0), 99999);
         Checks.due("no more", Checks.drive(car, 0, 0, 1), ShiftMaps.FULL);
         Checks.due("no more", car.readDrive(), ShiftMaps.FULL);

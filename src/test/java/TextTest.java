@@ -6,6 +6,7 @@ public final class TextTest {
         promise6PassesTheTicks();
         promise6PedalsAreHundredths();
         promise6IsOneAct();
+        promise6ReadsAnew();
         promise8Types();
         promise9Clears();
         Checks.finish();
@@ -134,6 +135,21 @@ public final class TextTest {
         Checks.due("tick", car.count(0), 0);
         Checks.due("gear", car.car(0), 1);
         Checks.due("text stays", car.count(14), 13);
+    }
+
+    private static void promise6ReadsAnew() {
+        ShiftMaps car = new ShiftMaps();
+        Checks.typeAll(car, "20,");
+        Checks.due("too early", car.readDrive(), -103);
+        Checks.due("as early", car.readDrive(), -103);
+        car.type('5');
+        Checks.due("good then", car.readDrive(), 1);
+        Checks.typeAll(car, "*3x");
+        Checks.due("not allowed", car.readDrive(), -106);
+        car.clearText();
+        Checks.typeAll(car, "20,5*3");
+        Checks.due("good again", car.readDrive(), 0);
+        Checks.due("ticks", car.count(0), 4);
     }
 
     private static void promise8Types() {
