@@ -1,5 +1,10 @@
 /** Counts the answers that are not as due, and helps the tests to write calls shortly. */
 final class Checks {
+    /** Bits that are neither a speed nor a pedal: what is below 0.0f, and what is no number. */
+    private static final int[] NO_FLOATS = {
+        0x80000000, 0x80000001, 0x80800000, 0xbf800000, 0xc3960000, 0xff7fffff, 0xff800000, 0xff800001, 0xffc00000,
+        0xffffffff, 0x7f7fffff, 0x7f800000, 0x7f800001, 0x7fc00000, 0x7fffffff
+    };
     private static int asked = 0;
     private static int wrong = 0;
 
@@ -46,6 +51,29 @@ final class Checks {
         return Float.floatToRawIntBits((float) number);
     }
 
+    private static int[] with(int[] some, int... others) {
+        int[] all = java.util.Arrays.copyOf(some, some.length + others.length);
+        System.arraycopy(others, 0, all, some.length, others.length);
+        return all;
+    }
+
+    static int[] noSpeeds() {
+        return with(NO_FLOATS, bits(300) + 1, bits(301), bits(1000));
+    }
+
+    static int[] noPedals() {
+        return with(NO_FLOATS, bits(1) + 1, bits(1.01), bits(2), bits(100));
+    }
+
+    /** The ends of what a pedal may be, and of the floats without a leading one. */
+    static int[] edgePedals() {
+        return new int[] {0, 1, 0x7fffff, 0x800000, bits(0.5), bits(1) - 1, bits(1)};
+    }
+
+    static int[] edgeSpeeds() {
+        return with(edgePedals(), bits(1) + 1, bits(299), bits(300) - 1, bits(300));
+    }
+
     static int drive(ShiftMaps car, double speed, double pedal, int ticks) {
         return car.drive(bits(speed), bits(pedal), ticks);
     }
@@ -61,6 +89,17 @@ final class Checks {
         ShiftMaps car = new ShiftMaps();
         car.setNumber(1, 0);
         car.setNumber(0, 2);
+        return car;
+    }
+
+    /** By hand in a gear, at the speed 10; each gear above 1 took five ticks. */
+    static ShiftMaps carInGear(int gear) {
+        ShiftMaps car = new ShiftMaps();
+        car.byHand(true);
+        for (int i = 1; i < gear; i++) {
+            car.shift(true);
+            drive(car, 10, 0, 5);
+        }
         return car;
     }
 

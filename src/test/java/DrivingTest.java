@@ -5,6 +5,7 @@ public final class DrivingTest {
 
     public static void main(String[] args) {
         promise5WrongArguments();
+        promise5TicksAre1To99();
         promise5TicksOfAChange();
         promise5UpEdges();
         promise5DownEdges();
@@ -19,11 +20,16 @@ public final class DrivingTest {
         promise5WindowEdges();
         promise5OnlyAlternatingUpAndDownHold();
         promise5GuardAndKickdownWhileHeld();
-        promise5Full();
+        promise5FullAbove99999();
+        promise6FullAbove99999();
+        forecastsAtTheLastTick();
         promise5IsAnAct();
         promise7Shifts();
-        promise7NotPossible();
-        promise7Bounds();
+        promise7OnlyByHand();
+        promise7NotInAChange();
+        promise7GearsAre1To5();
+        promise7BoundOfTheNewGear();
+        promise7AheadOfTheFirstTick();
         promise7NeverHolds();
         Checks.finish();
     }
@@ -37,14 +43,22 @@ public final class DrivingTest {
         Checks.due("pedal", car.drive(speed, Checks.bits(1) + 1, 1), ShiftMaps.BAD_VALUE);
         Checks.due("pedal -0.0f", car.drive(speed, Integer.MIN_VALUE, 1), ShiftMaps.BAD_VALUE);
         Checks.due("pedal NaN", car.drive(speed, Checks.bits(Float.NaN), 1), ShiftMaps.BAD_VALUE);
-        Checks.due("no ticks", car.drive(speed, 0, 0), ShiftMaps.BAD_VALUE);
-        Checks.due("100 ticks", car.drive(speed, 0, 100), ShiftMaps.BAD_VALUE);
-        Checks.due("far", car.drive(speed, 0, Integer.MAX_VALUE), ShiftMaps.BAD_VALUE);
-        Checks.due("far", car.drive(speed, 0, Integer.MIN_VALUE), ShiftMaps.BAD_VALUE);
         Checks.due("no tick passed", car.count(0), 0);
         Checks.due("nothing recorded", car.count(13), 0);
         Checks.due("greatest", car.drive(Checks.bits(300), Checks.bits(1), 99), 4);
-        Checks.due("99 ticks passed", car.count(0), 99);
+    }
+
+    private static void promise5TicksAre1To99() {
+        ShiftMaps car = new ShiftMaps();
+        int[] wrong = {Integer.MIN_VALUE, -99, -1, 0, 100, 101, Integer.MAX_VALUE};
+        for (int ticks : wrong) {
+            Checks.due(ticks + " ticks", car.drive(Checks.bits(20), 0, ticks), ShiftMaps.BAD_VALUE);
+        }
+        Checks.due("no tick passed", car.count(0), 0);
+        Checks.due("1 tick", car.drive(Checks.bits(20), 0, 1), 1);
+        Checks.due("1 tick passed", car.count(0), 1);
+        Checks.due("99 ticks", car.drive(Checks.bits(20), 0, 99), 0);
+        Checks.due("99 ticks passed", car.count(0), 100);
     }
 
     private static void promise5TicksOfAChange() {
@@ -115,19 +129,8 @@ public final class DrivingTest {
         Checks.due("no guard in 5", Checks.drive(five, 290, 0, 20), 0);
     }
 
-    /** A car in the gear 4, by hand, with the speed 100. */
-    private static ShiftMaps carInFour() {
-        ShiftMaps car = new ShiftMaps();
-        car.byHand(true);
-        for (int i = 0; i < 3; i++) {
-            car.shift(true);
-            Checks.drive(car, 10, 0, 5);
-        }
-        return car;
-    }
-
     private static void kickdown(double speed, int gear) {
-        ShiftMaps car = carInFour();
+        ShiftMaps car = Checks.carInGear(4);
         Checks.due("kickdown begins at " + speed, Checks.drive(car, speed, 1, 1), gear > 0 ? 1 : 0);
         Checks.due("kickdown at " + speed, car.car(1), gear > 0 ? gear : ShiftMaps.NONE);
     }
@@ -149,14 +152,14 @@ public final class DrivingTest {
         Checks.due("by kickdown", slow.change(0, 3), 2);
         ShiftMaps one = new ShiftMaps();
         Checks.due("none from 1", Checks.drive(one, 10, 1, 1), 0);
-        ShiftMaps odd = carInFour();
+        ShiftMaps odd = Checks.carInGear(4);
         odd.setMap(3, 3, Checks.bits(1));
         Checks.drive(odd, 80, 1, 1);
         Checks.due("the lowest counts alone", odd.car(1), 2);
     }
 
     private static void promise5KickdownPedal() {
-        ShiftMaps car = carInFour();
+        ShiftMaps car = Checks.carInGear(4);
         Checks.due("not deep", Checks.drive(car, 60, NOT_DEEP, 1), 0);
         Checks.due("deep", Checks.drive(car, 60, DEEP, 1), 1);
         Checks.due("why", car.change(0, 3), 2);
@@ -175,7 +178,7 @@ public final class DrivingTest {
     }
 
     private static void promise5KickdownByHand() {
-        ShiftMaps car = carInFour();
+        ShiftMaps car = Checks.carInGear(4);
         Checks.due("by hand", car.car(4), 1);
         Checks.drive(car, 60, 1, 1);
         Checks.due("kickdown", car.change(0, 3), 2);
@@ -301,32 +304,57 @@ public final class DrivingTest {
         Checks.due("not by it", car.change(0, 4), 0);
     }
 
-    private static void promise5Full() {
+    /** At the tick 99918, with an empty text; 81 ticks are left. */
+    private static ShiftMaps carNearTheEnd() {
         ShiftMaps car = new ShiftMaps();
         Checks.typeAll(car, "0,0*99;0,0*99;0,0*99;0,0*99;0,0*99;0,0*99;0,0*99;0,0*99;0,0");
         for (int i = 0; i < 126; i++) {
             Checks.due("793 ticks", car.readDrive(), 0);
         }
         Checks.due("tick", car.count(0), 99918);
-        Checks.due("too many", Checks.drive(car, 0, 0, 82), ShiftMaps.FULL);
-        Checks.due("too many in the text", car.readDrive(), ShiftMaps.FULL);
-        Checks.due("value first", Checks.drive(car, 0, 0, 100), ShiftMaps.BAD_VALUE);
-        Checks.due("just enough", Checks.drive(car, 0, 0, 81), 0);
-        car.undo();
         car.clearText();
+        return car;
+    }
+
+    private static void promise5FullAbove99999() {
+        ShiftMaps car = carNearTheEnd();
+        Checks.due("one too many", Checks.drive(car, 0, 0, 82), ShiftMaps.FULL);
+        Checks.due("18 too many", Checks.drive(car, 0, 0, 99), ShiftMaps.FULL);
+        Checks.due("tick", car.count(0), 99918);
+        Checks.due("just enough", Checks.drive(car, 0, 0, 81), 0);
+        Checks.due("last tick", car.count(0), 99999);
+        Checks.due("ticks in 1", car.count(7), 99999);
+        Checks.due("no more", Checks.drive(car, 0, 0, 1), ShiftMaps.FULL);
+        car.undo();
+        Checks.due("just enough but one", Checks.drive(car, 0, 0, 80), 0);
+        Checks.due("the last one", Checks.drive(car, 20, 0, 1), 1);
+        Checks.due("its tick", car.change(0, 0), 99998);
+        Checks.due("no more", Checks.drive(car, 20, 0, 1), ShiftMaps.FULL);
+    }
+
+    private static void promise6FullAbove99999() {
+        ShiftMaps car = carNearTheEnd();
         Checks.typeAll(car, "0,0*60;0,0*22");
-        Checks.due("one too many in the text", car.readDrive(), ShiftMaps.FULL);
+        Checks.due("one too many", car.readDrive(), ShiftMaps.FULL);
+        Checks.due("no part passed", car.count(0), 99918);
         car.clearText();
         Checks.typeAll(car, "0,0*60;0,0*20;0,0");
-        Checks.due("just enough in the text", car.readDrive(), 0);
+        Checks.due("just enough", car.readDrive(), 0);
         Checks.due("last tick", car.count(0), 99999);
-        Checks.due("no more", Checks.drive(car, 0, 0, 1), ShiftMaps.FULL);
         Checks.due("no more", car.readDrive(), ShiftMaps.FULL);
-        Checks.due("ticks in 1", car.count(7), 99999);
-        Checks.due("forecasts go on", car.settles(Checks.bits(40), 0), 6);
-        Checks.due("forecasts go on", car.wouldChoose(Checks.bits(40), 0), 2);
         car.clearText();
-        Checks.due("fault ahead of full", car.readDrive(), -100);
+        Checks.typeAll(car, "0,0");
+        Checks.due("not even one", car.readDrive(), ShiftMaps.FULL);
+    }
+
+    private static void forecastsAtTheLastTick() {
+        ShiftMaps car = carNearTheEnd();
+        Checks.drive(car, 0, 0, 81);
+        Checks.due("settles", car.settles(Checks.bits(40), 0), 6);
+        Checks.due("wouldChoose", car.wouldChoose(Checks.bits(40), 0), 2);
+        car.byHand(true);
+        Checks.due("by hand", car.shift(true), 2);
+        Checks.due("the tick as it is then", car.change(0, 0), 99999);
     }
 
     private static void promise5IsAnAct() {
@@ -368,43 +396,75 @@ public final class DrivingTest {
         Checks.due("log too", car.change(0, 2), 1);
     }
 
-    private static void promise7NotPossible() {
+    private static void promise7OnlyByHand() {
         ShiftMaps car = new ShiftMaps();
-        Checks.due("not by hand", car.shift(true), ShiftMaps.NOT_POSSIBLE);
+        Checks.due("up", car.shift(true), ShiftMaps.NOT_POSSIBLE);
+        Checks.due("down", car.shift(false), ShiftMaps.NOT_POSSIBLE);
         car.byHand(true);
-        Checks.due("below 1", car.shift(false), ShiftMaps.NOT_POSSIBLE);
-        car.shift(true);
-        Checks.due("in a change", car.shift(true), ShiftMaps.NOT_POSSIBLE);
-        Checks.drive(car, 0, 0, 4);
-        Checks.due("still in it", car.shift(true), ShiftMaps.NOT_POSSIBLE);
-        Checks.due("recorded", car.count(13), 3);
-        Checks.drive(car, 290, 0, 30);
-        Checks.due("gear 5", car.car(0), 5);
-        Checks.due("above 5", car.shift(true), ShiftMaps.NOT_POSSIBLE);
+        Checks.due("by hand", car.shift(true), 2);
+        Checks.drive(car, 10, 0, 5);
         car.byHand(false);
-        Checks.due("not by hand", car.shift(false), ShiftMaps.NOT_POSSIBLE);
+        Checks.due("up again", car.shift(true), ShiftMaps.NOT_POSSIBLE);
+        Checks.due("down again", car.shift(false), ShiftMaps.NOT_POSSIBLE);
+        Checks.due("recorded", car.count(13), 4);
+        Checks.due("counted", car.count(4), 1);
     }
 
-    private static void promise7Bounds() {
+    private static void promise7NotInAChange() {
+        ShiftMaps car = new ShiftMaps();
+        car.byHand(true);
+        car.shift(true);
+        for (int done = 0; done < 5; done++) {
+            Checks.due("up behind " + done, car.shift(true), ShiftMaps.NOT_POSSIBLE);
+            Checks.due("down behind " + done, car.shift(false), ShiftMaps.NOT_POSSIBLE);
+            Checks.drive(car, 0, 0, 1);
+        }
+        Checks.due("behind all of it", car.shift(true), 3);
+        Checks.due("and in the next", car.shift(false), ShiftMaps.NOT_POSSIBLE);
+    }
+
+    private static void promise7GearsAre1To5() {
+        ShiftMaps low = Checks.carInGear(1);
+        Checks.due("below 1", low.shift(false), ShiftMaps.NOT_POSSIBLE);
+        Checks.due("2", low.shift(true), 2);
+        ShiftMaps high = Checks.carInGear(5);
+        Checks.due("above 5", high.shift(true), ShiftMaps.NOT_POSSIBLE);
+        Checks.due("4", high.shift(false), 4);
+    }
+
+    private static void promise7BoundOfTheNewGear() {
+        float[] bounds = {0, 50, 90, 130, 180};
+        for (int gear = 1; gear <= 4; gear++) {
+            ShiftMaps down = Checks.carInGear(gear + 1);
+            Checks.drive(down, Math.nextUp(bounds[gear]), 0, 1);
+            Checks.due("above the bound of " + gear, down.shift(false), ShiftMaps.NOT_POSSIBLE);
+            Checks.drive(down, bounds[gear], 0, 1);
+            Checks.due("at the bound of " + gear, down.shift(false), gear);
+        }
+        ShiftMaps up = Checks.carInGear(1);
+        up.setMap(2, 3, Checks.bits(20));
+        Checks.drive(up, Math.nextUp(20f), 0, 1);
+        Checks.due("above it, up too", up.shift(true), ShiftMaps.NOT_POSSIBLE);
+        Checks.drive(up, 20, 0, 1);
+        Checks.due("at it, up too", up.shift(true), 2);
+        ShiftMaps five = Checks.carInGear(4);
+        five.setMap(5, 3, Checks.bits(20));
+        Checks.drive(five, 21, 0, 1);
+        Checks.due("5 has a bound too", five.shift(true), ShiftMaps.NOT_POSSIBLE);
+    }
+
+    private static void promise7AheadOfTheFirstTick() {
         ShiftMaps car = new ShiftMaps();
         car.byHand(true);
         car.setMap(2, 3, Checks.bits(0));
-        Checks.due("0.0f ahead of the first tick", car.shift(true), 2);
-        ShiftMaps down = new ShiftMaps();
-        down.byHand(true);
-        down.shift(true);
-        Checks.drive(down, 10, 0, 5);
-        Checks.drive(down, Math.nextUp(50f), 0, 1);
-        Checks.due("above the bound", down.shift(false), ShiftMaps.NOT_POSSIBLE);
-        Checks.drive(down, 50, 0, 1);
-        Checks.due("at the bound", down.shift(false), 1);
-        ShiftMaps up = new ShiftMaps();
-        up.byHand(true);
-        up.setMap(2, 3, Checks.bits(20));
-        Checks.drive(up, 21, 0, 1);
-        Checks.due("the bound of the new gear, up too", up.shift(true), ShiftMaps.NOT_POSSIBLE);
-        Checks.drive(up, 20, 0, 1);
-        Checks.due("at it", up.shift(true), 2);
+        Checks.due("0.0f is not greater than 0.0f", car.shift(true), 2);
+        ShiftMaps driven = new ShiftMaps();
+        driven.byHand(true);
+        driven.setMap(2, 3, Checks.bits(0));
+        driven.drive(1, 0, 1);
+        Checks.due("the least speed is", driven.shift(true), ShiftMaps.NOT_POSSIBLE);
+        driven.undo();
+        Checks.due("ahead of it again", driven.shift(true), 2);
     }
 
     private static void promise7NeverHolds() {

@@ -167,11 +167,11 @@ public final class LanguageTest {
         long before = threads.getCurrentThreadAllocatedBytes();
         callOften(car);
         long made = threads.getCurrentThreadAllocatedBytes() - before;
-        Checks.isTrue("400 calls made " + made + " bytes", made < 4000);
+        Checks.isTrue("240 calls made " + made + " bytes", made < 1500);
     }
 
     private static void callOften(ShiftMaps car) {
-        for (int i = 0; i < 40; i++) {
+        for (int i = 0; i < 24; i++) {
             car.readDrive();
             car.drive(0, 0, 9);
             car.settles(0x42c80000, 0);

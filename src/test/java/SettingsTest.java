@@ -8,13 +8,18 @@ public final class SettingsTest {
         promise1NewObject();
         promise1ObjectsAreApart();
         promise2SetsEachSpeed();
+        promise2WhatIs0To3();
         promise2WrongArguments();
+        promise2IsSoAlready();
         promise2EdgesOfSpeeds();
         promise2IsAnAct();
         promise3SetsNumbers();
+        promise3WhichIs0To3();
         promise3Edges();
+        promise3IsSoAlready();
         promise3NotInAChange();
         promise4ByHand();
+        promise4IsSoAlready();
         Checks.finish();
     }
 
@@ -70,6 +75,30 @@ public final class SettingsTest {
         for (int what = 0; what < 4; what++) {
             for (int gear = 1; gear <= (what == 3 ? 5 : 4); gear++) {
                 Checks.dueFloat("map as set", car.map(gear, what), 100.5f + what * 10 + gear);
+            }
+        }
+    }
+
+    private static void promise2WhatIs0To3() {
+        ShiftMaps car = new ShiftMaps();
+        int[] wrong = {Integer.MIN_VALUE, -2, -1, 4, 5, Integer.MAX_VALUE};
+        for (int what : wrong) {
+            Checks.due("setMap, what " + what, car.setMap(1, what, Checks.bits(33)), ShiftMaps.BAD_VALUE);
+            Checks.dueFloat("map, what " + what, car.map(1, what), Float.NaN);
+        }
+        Checks.due("what 0", car.setMap(1, 0, Checks.bits(33)), 1);
+        Checks.due("what 3", car.setMap(1, 3, Checks.bits(33)), 1);
+    }
+
+    private static void promise2IsSoAlready() {
+        ShiftMaps car = new ShiftMaps();
+        for (int what = 0; what < AT_FIRST.length; what++) {
+            for (int gear = 1; gear <= AT_FIRST[what].length; gear++) {
+                int bits = Checks.bits(AT_FIRST[what][gear - 1]);
+                Checks.due("is so at first", car.setMap(gear, what, bits), ShiftMaps.NONE);
+                Checks.due("the next float is not so", car.setMap(gear, what, bits - 1), 1);
+                Checks.due("is so then", car.setMap(gear, what, bits - 1), ShiftMaps.NONE);
+                Checks.due("one back", car.setMap(gear, what, bits), 1);
             }
         }
     }
@@ -142,10 +171,29 @@ public final class SettingsTest {
         Checks.due("undone", car.number(3), 30);
     }
 
+    private static void promise3WhichIs0To3() {
+        ShiftMaps car = new ShiftMaps();
+        int[] wrong = {Integer.MIN_VALUE, -2, -1, 4, 5, Integer.MAX_VALUE};
+        for (int which : wrong) {
+            Checks.due("which " + which, car.setNumber(which, 5), ShiftMaps.UNKNOWN);
+        }
+        Checks.due("which 0", car.setNumber(0, 7), 5);
+        Checks.due("which 3", car.setNumber(3, 7), 30);
+    }
+
+    private static void promise3IsSoAlready() {
+        ShiftMaps car = new ShiftMaps();
+        int[] numbers = {5, 1, 20, 30};
+        for (int which = 0; which < 4; which++) {
+            Checks.due("is so at first", car.setNumber(which, numbers[which]), ShiftMaps.NONE);
+            Checks.due("one more is not", car.setNumber(which, numbers[which] + 1), numbers[which]);
+            Checks.due("is so then", car.setNumber(which, numbers[which] + 1), ShiftMaps.NONE);
+        }
+        Checks.due("acts", car.count(13), 4);
+    }
+
     private static void promise3Edges() {
         ShiftMaps car = new ShiftMaps();
-        Checks.due("which -1", car.setNumber(-1, 5), ShiftMaps.UNKNOWN);
-        Checks.due("which 4 ahead of the value", car.setNumber(4, -1), ShiftMaps.UNKNOWN);
         Checks.due("time 21", car.setNumber(0, 21), ShiftMaps.BAD_VALUE);
         Checks.due("time 20", car.setNumber(0, 20), 5);
         Checks.due("lag 20", car.setNumber(1, 20), ShiftMaps.BAD_VALUE);
@@ -182,11 +230,8 @@ public final class SettingsTest {
 
     private static void promise4ByHand() {
         ShiftMaps car = new ShiftMaps();
-        Checks.due("is so", car.byHand(false), ShiftMaps.NONE);
-        Checks.due("nothing recorded", car.count(13), 0);
         Checks.drive(car, 20, 0, 3);
         Checks.due("in a change the old gear", car.byHand(true), 1);
-        Checks.due("is so", car.byHand(true), ShiftMaps.NONE);
         Checks.due("mode", car.car(4), 1);
         Checks.drive(car, 20, 0, 3);
         Checks.due("the change went on", car.car(0), 2);
@@ -196,5 +241,18 @@ public final class SettingsTest {
         car.undo();
         car.undo();
         Checks.due("mode is undone", car.car(4), 1);
+    }
+
+    private static void promise4IsSoAlready() {
+        ShiftMaps car = new ShiftMaps();
+        Checks.due("is not so at first", car.byHand(false), ShiftMaps.NONE);
+        Checks.due("nothing recorded", car.count(13), 0);
+        Checks.due("mode", car.car(4), 0);
+        Checks.due("taken", car.byHand(true), 1);
+        Checks.due("is so", car.byHand(true), ShiftMaps.NONE);
+        Checks.due("recorded once", car.count(13), 1);
+        Checks.due("mode", car.car(4), 1);
+        Checks.due("left", car.byHand(false), 1);
+        Checks.due("is left", car.byHand(false), ShiftMaps.NONE);
     }
 }

@@ -4,6 +4,7 @@ public final class ToldTest {
 
     public static void main(String[] args) {
         promise13Car();
+        promise13WhatIs0To6();
         promise13ClutchesOfChanges();
         promise14Pressed();
         promise14PressedInEachGear();
@@ -11,26 +12,25 @@ public final class ToldTest {
         promise16Map();
         promise17Border();
         promise18Number();
+        promise19WrongArguments();
         promise19WouldChoose();
         promise19InAChange();
+        promise20WrongArguments();
         promise20Settles();
         promise20QuietTicks();
         promise20More();
+        promise20NoneAbove200();
         promise21Change();
+        promise21BackIsNotNegative();
+        promise21WhatIs0To4();
+        promise21NoneBehindTheFirst();
         promise21Ten();
         promise22Count();
+        promise22WhatIs0To14();
+        promise22TicksAreCountedBehindThem();
+        promise22TheStatesAndTheText();
         toldCallsChangeNothing();
         Checks.finish();
-    }
-
-    private static ShiftMaps carInGear(int gear) {
-        ShiftMaps car = new ShiftMaps();
-        car.byHand(true);
-        for (int i = 1; i < gear; i++) {
-            car.shift(true);
-            Checks.drive(car, 10, 0, 5);
-        }
-        return car;
     }
 
     private static void promise13Car() {
@@ -45,10 +45,16 @@ public final class ToldTest {
         for (int what = 0; what <= 6; what++) {
             Checks.due("behind it: car(" + what + ")", car.car(what), behind[what]);
         }
-        Checks.due("-1", car.car(-1), ShiftMaps.BAD_VALUE);
-        Checks.due("7", car.car(7), ShiftMaps.BAD_VALUE);
-        Checks.due("far", car.car(Integer.MIN_VALUE), ShiftMaps.BAD_VALUE);
-        Checks.due("far", car.car(Integer.MAX_VALUE), ShiftMaps.BAD_VALUE);
+    }
+
+    private static void promise13WhatIs0To6() {
+        ShiftMaps car = new ShiftMaps();
+        int[] wrong = {Integer.MIN_VALUE, -2, -1, 7, 8, Integer.MAX_VALUE};
+        for (int what : wrong) {
+            Checks.due("car(" + what + ")", car.car(what), ShiftMaps.BAD_VALUE);
+        }
+        Checks.due("car(6)", car.car(6), ShiftMaps.NONE);
+        Checks.due("car(0)", car.car(0), 1);
     }
 
     private static void clutches(ShiftMaps car, int opens, int closes) {
@@ -60,16 +66,16 @@ public final class ToldTest {
     private static void promise13ClutchesOfChanges() {
         int[][] up = {{}, {4, 3}, {3, 2}, {2, 1}, {0, 2}};
         for (int gear = 1; gear <= 4; gear++) {
-            ShiftMaps car = carInGear(gear);
+            ShiftMaps car = Checks.carInGear(gear);
             car.shift(true);
             clutches(car, up[gear][0], up[gear][1]);
-            ShiftMaps back = carInGear(gear + 1);
+            ShiftMaps back = Checks.carInGear(gear + 1);
             back.shift(false);
             clutches(back, up[gear][1], up[gear][0]);
         }
         int[][] kickdown = {{}, {}, {}, {2, 4}, {1, 3}, {1, 0}};
         for (int gear = 3; gear <= 5; gear++) {
-            ShiftMaps car = carInGear(gear);
+            ShiftMaps car = Checks.carInGear(gear);
             Checks.drive(car, 10, 1, 1);
             Checks.due("two gears", car.car(1), gear - 2);
             clutches(car, kickdown[gear][0], kickdown[gear][1]);
@@ -103,7 +109,7 @@ public final class ToldTest {
 
     private static void promise14PressedInEachGear() {
         for (int gear = 1; gear <= 5; gear++) {
-            ShiftMaps car = carInGear(gear);
+            ShiftMaps car = Checks.carInGear(gear);
             for (int clutch = 0; clutch < 5; clutch++) {
                 boolean closed = clutch == CLOSED[gear][0] || clutch == CLOSED[gear][1];
                 Checks.dueFloat("gear " + gear, car.pressed(clutch), closed ? 1f : 0f);
@@ -194,16 +200,21 @@ public final class ToldTest {
         return car.wouldChoose(Checks.bits(speed), Checks.bits(pedal));
     }
 
+    private static void promise19WrongArguments() {
+        ShiftMaps car = new ShiftMaps();
+        Checks.due("speed", would(car, 301, 0), ShiftMaps.BAD_VALUE);
+        Checks.due("pedal", would(car, 20, 2), ShiftMaps.BAD_VALUE);
+        Checks.due("both", would(car, 301, 2), ShiftMaps.BAD_VALUE);
+        Checks.due("the greatest ones", would(car, 300, 1), 2);
+        Checks.due("the least ones", would(car, 0, 0), ShiftMaps.NONE);
+    }
+
     private static void promise19WouldChoose() {
         ShiftMaps car = new ShiftMaps();
         Checks.due("none", would(car, 15, 0), ShiftMaps.NONE);
         Checks.due("up", would(car, 16, 0), 2);
         Checks.due("guard", would(car, 51, 1), 2);
-        Checks.due("speed", would(car, 301, 0), ShiftMaps.BAD_VALUE);
-        Checks.due("pedal", would(car, 20, 2), ShiftMaps.BAD_VALUE);
-        Checks.due("-0.0f", car.wouldChoose(Integer.MIN_VALUE, 0), ShiftMaps.BAD_VALUE);
-        Checks.due("-0.0f", car.wouldChoose(0, Integer.MIN_VALUE), ShiftMaps.BAD_VALUE);
-        ShiftMaps four = carInGear(4);
+        ShiftMaps four = Checks.carInGear(4);
         Checks.due("kickdown", would(four, 60, 1), 2);
         Checks.due("nothing else by hand", would(four, 0, 0), ShiftMaps.NONE);
         four.byHand(false);
@@ -236,6 +247,15 @@ public final class ToldTest {
         return car.settles(Checks.bits(speed), Checks.bits(pedal));
     }
 
+    private static void promise20WrongArguments() {
+        ShiftMaps car = new ShiftMaps();
+        Checks.due("speed", settles(car, 301, 0), ShiftMaps.BAD_VALUE);
+        Checks.due("pedal", settles(car, 1, 1.5), ShiftMaps.BAD_VALUE);
+        Checks.due("both", settles(car, 301, 2), ShiftMaps.BAD_VALUE);
+        Checks.due("the greatest ones", settles(car, 300, 1), 16);
+        Checks.due("the least ones", settles(car, 0, 0), 0);
+    }
+
     private static void promise20Settles() {
         ShiftMaps car = new ShiftMaps();
         Checks.due("none", settles(car, 10, 0), 0);
@@ -243,14 +263,10 @@ public final class ToldTest {
         Checks.due("two", settles(car, 40, 0), 6);
         Checks.due("three", settles(car, 50, 0), 11);
         Checks.due("four", settles(car, 100, 0), 16);
-        Checks.due("speed", settles(car, 301, 0), ShiftMaps.BAD_VALUE);
-        Checks.due("pedal", settles(car, 1, 1.5), ShiftMaps.BAD_VALUE);
-        Checks.due("-0.0f", car.settles(Integer.MIN_VALUE, 0), ShiftMaps.BAD_VALUE);
-        Checks.due("-0.0f", car.settles(0, Integer.MIN_VALUE), ShiftMaps.BAD_VALUE);
         Checks.drive(car, 40, 0, 3);
         Checks.due("in a change", settles(car, 40, 0), 3);
         Checks.due("nothing behind it", settles(car, 25, 0), 0);
-        ShiftMaps four = carInGear(4);
+        ShiftMaps four = Checks.carInGear(4);
         Checks.due("kickdown alone", settles(four, 60, 1), 1);
         four.byHand(false);
         Checks.due("kickdown, and up again", settles(four, 80, 1), 6);
@@ -291,6 +307,38 @@ public final class ToldTest {
         Checks.due("more than 100, but not more than 200", settles(slow, 80, 0), 121);
     }
 
+    /** Held for 97 ticks in the gear 5; the change behind them holds for so many ticks as the hold is then. */
+    private static ShiftMaps carToGoDown(int hold) {
+        ShiftMaps car = Checks.quickCar();
+        car.setNumber(2, 100);
+        car.setNumber(3, 97);
+        car.byHand(true);
+        for (int i = 0; i < 3; i++) {
+            car.shift(true);
+            Checks.drive(car, 10, 0, 2);
+        }
+        car.byHand(false);
+        Checks.drive(car, 61, 0, 2);
+        Checks.drive(car, 47, 0, 2);
+        Checks.drive(car, 61, 0, 1);
+        Checks.due("held", car.car(3), 97);
+        car.setNumber(3, hold);
+        return car;
+    }
+
+    private static void promise20NoneAbove200() {
+        Checks.due("199", settles(carToGoDown(96), 0, 0), 199);
+        Checks.due("200", settles(carToGoDown(97), 0, 0), 200);
+        Checks.due("201", settles(carToGoDown(98), 0, 0), ShiftMaps.NONE);
+        Checks.due("202", settles(carToGoDown(99), 0, 0), ShiftMaps.NONE);
+        Checks.due("quiet for 100", settles(carToGoDown(100), 0, 0), 98);
+        ShiftMaps driven = carToGoDown(97);
+        Checks.due("98 ticks", Checks.drive(driven, 0, 0, 98), 1);
+        Checks.due("199 ticks", Checks.drive(driven, 0, 0, 99) + Checks.drive(driven, 0, 0, 2), 2);
+        Checks.due("200 ticks", Checks.drive(driven, 0, 0, 1), 1);
+        Checks.due("gear", driven.car(1), 1);
+    }
+
     private static void promise21Change() {
         ShiftMaps car = Checks.quickCar();
         Checks.swing(car);
@@ -300,13 +348,45 @@ public final class ToldTest {
                 Checks.due("change(" + back + ", " + what + ")", car.change(back, what), due[back][what]);
             }
         }
-        Checks.due("none", car.change(3, 0), ShiftMaps.NONE);
+    }
+
+    private static void promise21BackIsNotNegative() {
+        ShiftMaps car = Checks.quickCar();
+        int[] negative = {Integer.MIN_VALUE, -10, -2, -1};
+        for (int back : negative) {
+            Checks.due("back " + back + " of none", car.change(back, 0), ShiftMaps.BAD_VALUE);
+        }
+        Checks.swing(car);
+        for (int back : negative) {
+            Checks.due("back " + back, car.change(back, 4), ShiftMaps.BAD_VALUE);
+        }
+        Checks.due("back 0", car.change(0, 0), 4);
+    }
+
+    private static void promise21WhatIs0To4() {
+        ShiftMaps car = Checks.quickCar();
+        int[] wrong = {Integer.MIN_VALUE, -2, -1, 5, 6, Integer.MAX_VALUE};
+        for (int what : wrong) {
+            Checks.due("what " + what + " of none", car.change(0, what), ShiftMaps.BAD_VALUE);
+        }
+        Checks.swing(car);
+        for (int what : wrong) {
+            Checks.due("what " + what, car.change(1, what), ShiftMaps.BAD_VALUE);
+            Checks.due("what " + what + ", far back", car.change(99, what), ShiftMaps.BAD_VALUE);
+        }
+        Checks.due("what 0", car.change(0, 0), 4);
+        Checks.due("what 4", car.change(0, 4), 1);
+    }
+
+    private static void promise21NoneBehindTheFirst() {
+        ShiftMaps car = Checks.quickCar();
+        Checks.due("new", car.change(0, 0), ShiftMaps.NONE);
+        Checks.swing(car);
+        Checks.due("the first", car.change(2, 2), 2);
+        Checks.due("behind it", car.change(3, 0), ShiftMaps.NONE);
+        Checks.due("9", car.change(9, 0), ShiftMaps.NONE);
+        Checks.due("10", car.change(10, 0), ShiftMaps.NONE);
         Checks.due("far", car.change(Integer.MAX_VALUE, 4), ShiftMaps.NONE);
-        Checks.due("negative", car.change(-1, 0), ShiftMaps.BAD_VALUE);
-        Checks.due("far", car.change(Integer.MIN_VALUE, 0), ShiftMaps.BAD_VALUE);
-        Checks.due("what -1", car.change(0, -1), ShiftMaps.BAD_VALUE);
-        Checks.due("what 5", car.change(0, 5), ShiftMaps.BAD_VALUE);
-        Checks.due("what ahead of none", car.change(99, 5), ShiftMaps.BAD_VALUE);
     }
 
     private static void promise21Ten() {
@@ -337,16 +417,72 @@ public final class ToldTest {
         for (int what = 0; what <= 14; what++) {
             Checks.due("count(" + what + ")", car.count(what), due[what]);
         }
-        int[] bad = {-1, 15, Integer.MIN_VALUE, Integer.MAX_VALUE};
-        for (int what : bad) {
-            Checks.due("count(" + what + ")", car.count(what), ShiftMaps.BAD_VALUE);
-        }
         for (int gear = 1; gear <= 5; gear++) {
-            ShiftMaps in = carInGear(gear);
+            ShiftMaps in = Checks.carInGear(gear);
             int before = in.count(6 + gear);
             Checks.drive(in, 10, 0, 7);
             Checks.due("ticks in gear " + gear, in.count(6 + gear), before + 7);
         }
+    }
+
+    private static void promise22WhatIs0To14() {
+        ShiftMaps car = new ShiftMaps();
+        int[] wrong = {Integer.MIN_VALUE, -2, -1, 15, 16, Integer.MAX_VALUE};
+        for (int what : wrong) {
+            Checks.due("count(" + what + ")", car.count(what), ShiftMaps.BAD_VALUE);
+        }
+        for (int what = 0; what <= 14; what++) {
+            Checks.due("count(" + what + ")", car.count(what), 0);
+        }
+    }
+
+    private static void counts(ShiftMaps car, String when, int inOne, int inTwo, int inChange) {
+        Checks.due(when + ": in 1", car.count(7), inOne);
+        Checks.due(when + ": in 2", car.count(8), inTwo);
+        Checks.due(when + ": in a change", car.count(12), inChange);
+    }
+
+    private static void promise22TicksAreCountedBehindThem() {
+        ShiftMaps car = new ShiftMaps();
+        counts(car, "new", 0, 0, 0);
+        Checks.drive(car, 20, 0, 1);
+        counts(car, "begun", 1, 0, 1);
+        Checks.drive(car, 20, 0, 4);
+        counts(car, "not over", 5, 0, 5);
+        Checks.drive(car, 20, 0, 1);
+        counts(car, "over", 5, 1, 5);
+        Checks.drive(car, 20, 0, 3);
+        counts(car, "behind it", 5, 4, 5);
+        car.byHand(true);
+        car.shift(false);
+        counts(car, "by hand, without a tick", 5, 4, 5);
+        Checks.drive(car, 20, 0, 1);
+        counts(car, "by hand, behind a tick", 5, 5, 6);
+        Checks.drive(car, 20, 0, 4);
+        counts(car, "over again", 6, 8, 9);
+        ShiftMaps next = new ShiftMaps();
+        Checks.drive(next, 40, 0, 6);
+        counts(next, "over, and the next one begun", 5, 1, 6);
+    }
+
+    private static void promise22TheStatesAndTheText() {
+        ShiftMaps car = new ShiftMaps();
+        for (int i = 1; i <= 61; i++) {
+            car.type('9');
+            Checks.due("length", car.count(14), Math.min(i, 60));
+        }
+        car.clearText();
+        Checks.due("no length", car.count(14), 0);
+        for (int i = 1; i <= 6; i++) {
+            car.setNumber(3, 30 + i);
+            Checks.due("states", car.count(13), Math.min(i, 4));
+        }
+        for (int left = 3; left >= 0; left--) {
+            car.undo();
+            Checks.due("states left", car.count(13), left);
+        }
+        car.undo();
+        Checks.due("none left", car.count(13), 0);
     }
 
     private static void toldCallsChangeNothing() {
