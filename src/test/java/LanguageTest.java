@@ -126,7 +126,8 @@ public final class LanguageTest {
         String source = withoutComments(Files.readString(SOURCE));
         String[] forbidden = {
             "\\bimport\\b", "\\bpackage\\b", "->", "::", "\\bcatch\\b", "\\bthrow\\b", "\\bfinally\\b", "\\bassert\\b",
-            "\\bsynchronized\\b", "\\bObject\\b", "\\bFloat\\b", "\\bDouble\\b", "\\bThread\\b", "\\brecord\\s+\\w+\\s*\\(",
+            "\\bsynchronized\\b", "\\bObject\\b", "\\bFloat\\b", "\\bDouble\\b", "\\bThread\\b",
+            "\\brecord\\s+\\w+\\s*\\(",
             "\\bequals\\b", "\\bhashCode\\b", "\\btoString\\b", "Exact\\b", "\\bstatic\\s*\\{", "\""
         };
         for (String pattern : forbidden) {

@@ -259,7 +259,9 @@ public final class TextTest {
     }
 
     private static void promise8AnyCharacter() {
-        char[] characters = {0, 1, '\n', ' ', '0', '~', 127, 128, 255, 256, 0x7fff, 0x8000, 0xd800, 0xdfff, 0xfffe, 0xffff};
+        char[] characters = {
+            0, 1, '\n', ' ', '0', '~', 127, 128, 255, 256, 0x7fff, 0x8000, 0xd800, 0xdfff, 0xfffe, 0xffff
+        };
         ShiftMaps car = new ShiftMaps();
         for (int i = 0; i < characters.length; i++) {
             Checks.due("type of " + (int) characters[i], car.type(characters[i]), i + 1);
