@@ -316,7 +316,8 @@ public final class ShiftMaps {
         }
 
         float speed(int gear, int what) {
-            return has(gear, what) ? speeds[what * GEARS + gear - 1] : 0.0f;
+            int cell = what * GEARS + gear - 1;
+            return cell >= 0 && cell < speeds.length ? speeds[cell] : 0.0f;
         }
 
         void put(int gear, int what, float speed) {
